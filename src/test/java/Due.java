@@ -14,6 +14,10 @@ final class Due {
         }
     }
 
+    static int wrong() {
+        return wrong;
+    }
+
     /** Ends the test: with exit code 1 if an answer was not the one that is due. */
     static void end() {
         System.out.println(checked + " answers, " + wrong + " of them not as due");
