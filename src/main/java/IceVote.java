@@ -173,11 +173,11 @@ public final class IceVote {
         }
         switch (what) {
             case 0:
-                return now.voters.kind[v];
+                return now.voters.kindOf(v);
             case 1:
-                return now.voters.weight[v];
+                return now.voters.weightOf(v);
             case 2:
-                return now.voters.cell[v];
+                return now.voters.cellOf(v);
             default:
                 return has(yesNow(), v) ? 1 : 0;
         }
@@ -924,17 +924,25 @@ public final class IceVote {
             size = other.size;
         }
 
-        void add(int kindOf, int weightOf, int cellOf) {
+        void add(int newKind, int newWeight, int newCell) {
             if (within(size, 0, MOST_VOTERS - 1)) {
-                kind[size] = kindOf;
-                weight[size] = weightOf;
-                cell[size] = cellOf;
+                kind[size] = newKind;
+                weight[size] = newWeight;
+                cell[size] = newCell;
                 size++;
             }
         }
 
+        int kindOf(int v) {
+            return within(v, 0, MOST_VOTERS - 1) ? kind[v] : 0;
+        }
+
         int weightOf(int v) {
             return within(v, 0, MOST_VOTERS - 1) ? weight[v] : 0;
+        }
+
+        int cellOf(int v) {
+            return within(v, 0, MOST_VOTERS - 1) ? cell[v] : 0;
         }
 
         /** How many sets of voters there are, the empty one too. */
@@ -1156,7 +1164,7 @@ public final class IceVote {
         private static final int FIRST_COLUMN = 1 | 1 << 5 | 1 << 10 | 1 << 15 | 1 << 20;
         private static final int LAST_COLUMN = FIRST_COLUMN << SIDE - 1;
 
-        /** The open cells by how many steps they are from the end, a set for each number of steps. */
+        /** The open cells that can be at the end by so many steps, a set for each number of steps. */
         private final int[] ring = new int[CELLS];
         private final int[] steps = new int[CELLS];
 
@@ -1194,17 +1202,15 @@ public final class IceVote {
             return far + 1;
         }
 
-        /** How many steps it is from a to b, none being -1: the rings are drawn about b. */
+        /** How many steps it is from a to b, none: NONE. The rings are drawn about b. */
         private int measure(int open, int a, int b) {
             ring[0] = open & 1 << b;
-            int reached = ring[0];
             for (int far = 0; far < CELLS; far++) {
                 if (has(ring[far], a)) {
                     return far;
                 }
                 if (far + 1 < CELLS) {
-                    ring[far + 1] = beside(ring[far]) & open & ~reached;
-                    reached |= ring[far + 1];
+                    ring[far + 1] = beside(ring[far]) & open;
                 }
             }
             return NONE;

@@ -94,6 +94,10 @@ public final class DaysTest {
         Due.due("11: a drift bears 20", x.tread(2, 20), 1);
         Due.due("11: a drift bears 19", x.tread(2, 20), 0);
         Due.due("11: may be undone", x.count(5), 6);
+        x.lake(1);
+        Due.due("11: ICE of 1", x.tread(3, 2), 1);
+        Due.due("11: ICE of 1 is none", x.of(3, 1), 0);
+        x.lake(20);
         Due.due("11: tread(25, 1)", x.tread(25, 1), IceVote.BAD);
         Due.due("11: tread(-1, 1)", x.tread(-1, 1), IceVote.BAD);
         Due.due("11: tread(0, 0)", x.tread(0, 0), IceVote.BAD);
@@ -136,14 +140,19 @@ public final class DaysTest {
         Due.due("13: none is left", x.undo(), IceVote.NO);
         Due.due("13: NOTES stay", x.count(3), 1);
         Due.due("13: STATUS NO", x.status(1), 2);
+        int[] ice = new int[21];
         for (int i = 1; i <= 10; i++) {
-            x.stone(0);
+            ice[2 * i - 1] = x.count(2);
+            x.stone(i);
+            ice[2 * i] = x.count(2);
             x.day(1);
         }
         Due.due("13: 8 at most", x.count(5), 8);
         for (int i = 10; i > 6; i--) {
             Due.due("13: day " + i, x.undo(), i - 1);
+            Due.due("13: ICE ahead of day " + i, x.count(2), ice[2 * i]);
             Due.due("13: stone " + i, x.undo(), i - 1);
+            Due.due("13: ICE ahead of stone " + i, x.count(2), ice[2 * i - 1]);
         }
         Due.due("13: the older ones are gone", x.undo(), IceVote.NO);
     }
@@ -231,6 +240,16 @@ public final class DaysTest {
             x.tread(beside[v], 99);
             Due.due("15: an ear by " + beside[v], x.about(v, 3), 0);
         }
+        x = Due.told("lake 30;voter 5 50 5;voter 5 50 6;voter 5 50 8;voter 5 50 18;voter 5 50 19;");
+        int[] sides = {0, 11, 9, 17, 24};
+        for (int v = 0; v < 5; v++) {
+            Due.due("15: an ear in a middle", x.about(v, 3), 1);
+            x.tread(sides[v], 99);
+            Due.due("15: an ear by " + sides[v], x.about(v, 3), 0);
+        }
+        x = Due.told("lake 30;voter 5 50 6;");
+        x.tread(5, 99);
+        Due.due("15: an ear by 5", x.about(0, 3), 0);
         x = Due.told("lake 30;voter 5 50 14;voter 5 50 10;");
         x.tread(15, 99);
         Due.due("15: 15 is not beside 14", x.about(0, 3), 1);

@@ -241,6 +241,13 @@ public final class LakeTest {
         fault("lak", 0);
         fault(" lakes 4;", 1);
         fault("Lake 4;", 0);
+        fault("bake 4;", 0);
+        fault("lake 4;sell 1 1;", 7);
+        fault("lake 4;peek 1 1;", 7);
+        fault("lake 4;boter 1 1 1;", 7);
+        fault("lake 4;vote 1 1 1;", 7);
+        fault(";".repeat(150), 0);
+        fault("lake 4;" + " ".repeat(142) + "c", 149);
         fault("lakelake 4;", 0);
         fault("cell 0 1;lake 4;", 0);
         fault(";lake 4;", 0);

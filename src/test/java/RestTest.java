@@ -71,6 +71,7 @@ public final class RestTest {
         x.note(0, 0, 0, 0, 0);
         x.voted(1, 0, 0, 0, 0);
         x.day(9);
+        x.stone(1);
         x.from(0);
         Due.due("40: all is as it was kept", x.digest(), kept);
         Due.due("40: the stone may be undone", x.undo(), 3);

@@ -48,6 +48,11 @@ public final class VotesTest {
         votesAre("lake 20;voter 2 1 0;voter 0 1 0;voter 2 40 0;voter 0 40 0;", 10, 0, 0);
         votesAre("lake 20;week 6 0;voter 2 1 0;voter 3 90 0;", 2, 1, 2);
         votesAre("lake 20;week 6 0;voter 2 91 0;voter 3 90 0;", 2, 0, 0);
+        IceVote x = Due.told("lake 20;voter 2 1 0;voter 2 1 0;voter 2 99 0;");
+        x.lake(20);
+        x.voter(2, 30, 0);
+        x.voter(0, 40, 0);
+        Due.due("24: who was there weighs no more", x.votes(1), 1);
     }
 
     private static void turnIs(String text, int want) {
@@ -299,6 +304,16 @@ public final class VotesTest {
         x.voted(0, 0, 50, 29, 0);
         Due.due("34: ear", x.who(0), 32);
         Due.due("34: who(1)", x.who(1), IceVote.BAD);
+        while (x.count(0) < 7) {
+            x.voter(3, 70, 24);
+        }
+        x.forget(1);
+        x.voted(6, 0, 60, 60, 0);
+        x.voted(6, 1, 70, 60, 0);
+        Due.due("34: the last voter", x.who(6), 1 + 2 + 8 + 16);
+        for (int what = 0; what < 3; what++) {
+            Due.due("15: about(6, " + what + ")", x.about(6, what), new int[] {3, 70, 24}[what]);
+        }
         Due.due("34: who(-1)", x.who(-1), IceVote.BAD);
     }
 
@@ -364,8 +379,13 @@ public final class VotesTest {
         Due.due("36: odds 11", x.thaw(0, 1, 1, 11), IceVote.BAD);
         Due.due("36: odds -1", x.thaw(0, 1, 1, -1), IceVote.BAD);
         Due.due("36: THE FRACTION stays", x.part(0) * 100 + x.part(1), 710);
-        x.thaw(0, 89, 8, 3);
+        thawIs(x, 89, 8, 3, 0, 1);
         Due.due("36: all else stays", x.digest(), before);
+        IceVote thick = Due.told("lake 99;week 3 0 0 1;");
+        thawIs(thick, 198, 0, 5, 1, 1);
+        thawIs(thick, 198, 1, 5, 1, 1);
+        thawIs(thick, 196, 2, 5, 1, 1);
+        thawIs(thick, 197, 2, 5, 0, 1);
         // What has melted to 0 melts no more, so the nights' order counts.
         x = Due.told("lake 0;week 3 0 0 2 4 1;");
         thawIs(x, 2, 2, 3, 7, 10);
