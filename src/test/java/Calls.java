@@ -29,6 +29,11 @@ enum Calls {
         java.util.Arrays.fill(types, int.class);
     }
 
+    /** The calls stand as their promises do; the first one is of the constructor. */
+    int promise() {
+        return ordinal() + 2;
+    }
+
     int numbers() {
         return types.length;
     }

@@ -1,0 +1,168 @@
+/**
+ * Every call by every number just beyond its least and its most, and far beyond them: it is refused,
+ * counted as such, and nothing else is changed; by the least and the most ones it is not.
+ */
+final class RefusedEdges {
+    private static final int VOTERS = 3;
+
+    private RefusedEdges() {
+    }
+
+    static void all() {
+        for (Calls call : Calls.values()) {
+            if (call.numbers() > 0) {
+                numbers(call);
+            }
+        }
+        unlike(Calls.CROSS, "BAD: alike a, b, too");
+        unlike(Calls.APART, "BAD: alike a, b, too");
+        unlike(Calls.STONES, "BAD: alike, too");
+        unlike(Calls.TWO, "BAD: alike, too");
+        noVoters();
+        badAheadOfNo();
+        badAheadOfFull();
+        no();
+        full();
+    }
+
+    /** Where the first of two numbers that must be unlike stands, the other one behind it; -1: nowhere. */
+    private static int pair(Calls call) {
+        boolean cells = call == Calls.CROSS || call == Calls.APART || call == Calls.STONES;
+        return cells ? 1 : call == Calls.TWO ? 0 : -1;
+    }
+
+    private static void numbers(Calls call) {
+        Edge.of(call.promise(), call == Calls.STATUS ? "-1: another what (counts as BAD)" : "BAD");
+        for (int i = 0; i < call.numbers(); i++) {
+            int least = call.least(i);
+            int most = call.most(i, VOTERS);
+            int[] told = {least - 1, most + 1, Integer.MIN_VALUE, Integer.MAX_VALUE, least - 256, least - 65536};
+            for (int number : told) {
+                if (number < least || number > most) {
+                    refused(call, with(call, i, number));
+                }
+            }
+            taken(call, with(call, i, least));
+            taken(call, with(call, i, most));
+        }
+    }
+
+    /** The i-th number is this one, all others are as told; two that must be unlike are so. */
+    private static int[] with(Calls call, int i, int number) {
+        int[] numbers = new int[call.numbers()];
+        for (int j = 0; j < numbers.length; j++) {
+            numbers[j] = j == i ? number : call.least(j);
+        }
+        int pair = pair(call);
+        if (pair >= 0 && numbers[pair] == numbers[pair + 1]) {
+            numbers[i == pair ? pair + 1 : pair]++;
+        }
+        return numbers;
+    }
+
+    private static void unlike(Calls call, String words) {
+        Edge.of(call.promise(), words);
+        int first = pair(call);
+        for (int number = call.least(first); number <= call.most(first, VOTERS); number++) {
+            int[] numbers = with(call, first, number);
+            numbers[first + 1] = number;
+            refused(call, numbers);
+        }
+    }
+
+    private static void refused(Calls call, int... numbers) {
+        refused(Lakes.some(), Lakes.some(), call, numbers);
+    }
+
+    private static void refused(IceVote x, IceVote twin, Calls call, int... numbers) {
+        String told = call.told(numbers);
+        Edge.due(told, call.on(x, numbers), call.bad());
+        counted(told, x, twin, 0);
+    }
+
+    /** One more of this reason is counted, none of the others, and all else is as with the twin. */
+    private static void counted(String told, IceVote x, IceVote twin, int reason) {
+        for (int what = 0; what <= 2; what++) {
+            Edge.due("status(" + what + ") behind " + told, x.status(what), twin.status(what) + (what == reason ? 1 : 0));
+        }
+        Edge.alike("behind " + told, x, twin);
+    }
+
+    private static void taken(Calls call, int... numbers) {
+        IceVote x = Lakes.some();
+        call.on(x, numbers);
+        for (int what = 0; what <= 2; what++) {
+            Edge.due("status(" + what + ") behind " + call.told(numbers), x.status(what), 0);
+        }
+    }
+
+    private static void noVoters() {
+        Edge.of(1, "no VOTERS");
+        refused(new IceVote(), new IceVote(), Calls.ABOUT, 0, 0);
+        refused(new IceVote(), new IceVote(), Calls.VOTED, 0, 0, 0, 0, 0);
+        refused(new IceVote(), new IceVote(), Calls.WHO, 0);
+        refused(new IceVote(), new IceVote(), Calls.TWO, 0, 1);
+        Edge.of(26, "bits; of those there are");
+        refused(new IceVote(), new IceVote(), Calls.SEEN, 1, 0);
+        refused(Lakes.full(), Lakes.full(), Calls.SEEN, 128, 0);
+    }
+
+    private static void badAheadOfNo() {
+        Edge.of(40, "BAD -2 a number is not as told; NO -3 as told");
+        refused(new IceVote(), new IceVote(), Calls.FROM, 2);
+        refused(new IceVote(), new IceVote(), Calls.FROM, -1);
+    }
+
+    private static void badAheadOfFull() {
+        Edge.of(6, "Refused, changing nothing but STATUS, the first of: BAD -2 a number is not as told; NO -3 as told; FULL -4");
+        refused(Lakes.full(), Lakes.full(), Calls.VOTER, 6, 1, 0);
+        refused(Lakes.full(), Lakes.full(), Calls.VOTER, 0, 0, 0);
+        refused(Lakes.full(), Lakes.full(), Calls.VOTER, 0, 1, 25);
+        refused(Lakes.full(), Lakes.full(), Calls.TYPE, 128);
+        refused(Lakes.full(), Lakes.full(), Calls.NOTE, 25, 0, 0, 0, 0);
+        refused(Lakes.full(), Lakes.full(), Calls.VOTED, 7, 0, 0, 0, 0);
+    }
+
+    private static void no(IceVote x, IceVote twin, Calls call, int... numbers) {
+        Edge.due(call.told(numbers), call.on(x, numbers), IceVote.NO);
+        counted(call.told(numbers), x, twin, 1);
+    }
+
+    private static void no() {
+        Edge.of(13, "NO: none may be");
+        no(new IceVote(), new IceVote(), Calls.UNDO);
+        no(told(Lakes.full()), told(Lakes.full()), Calls.UNDO);
+        Edge.of(40, "NO: none was kept");
+        no(new IceVote(), new IceVote(), Calls.FROM, 0);
+        no(new IceVote(), new IceVote(), Calls.FROM, 1);
+        no(kept(0), kept(0), Calls.FROM, 1);
+        no(kept(1), kept(1), Calls.FROM, 0);
+    }
+
+    /** A word is told, so that none may be undone. */
+    private static IceVote told(IceVote x) {
+        x.ward(0, 1);
+        return x;
+    }
+
+    private static IceVote kept(int i) {
+        IceVote x = Lakes.of(9);
+        x.image(i);
+        x.stone(3);
+        return x;
+    }
+
+    private static void full(int promise, String words, Calls call, int... numbers) {
+        Edge.of(promise, words);
+        IceVote x = Lakes.full();
+        Edge.due(call.told(numbers), call.on(x, numbers), IceVote.FULL);
+        counted(call.told(numbers), x, Lakes.full(), 2);
+    }
+
+    private static void full() {
+        full(6, "FULL: 7", Calls.VOTER, 0, 1, 0);
+        full(7, "FULL", Calls.TYPE, 32);
+        full(29, "FULL: 6", Calls.NOTE, 0, 0, 0, 0, 0);
+        full(30, "FULL: 6", Calls.VOTED, 0, 0, 0, 0, 0);
+    }
+}
