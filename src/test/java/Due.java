@@ -40,6 +40,15 @@ final class Due {
         return x;
     }
 
+    /** As the digest folds what it is of. */
+    static long folded(long h, long... values) {
+        long all = h;
+        for (long v : values) {
+            all = 31 * all + v;
+        }
+        return all;
+    }
+
     static int bits(int... numbers) {
         int bits = 0;
         for (int n : numbers) {

@@ -45,7 +45,9 @@ final class Edge {
     /** Two of which nothing that can be seen is unlike; both are used up. */
     static void alike(String call, IceVote got, IceVote want) {
         String wanted = Whole.of(want);
-        Due.due(last().named() + call + ", all else: " + wanted, Whole.of(got).equals(wanted) ? 1 : 0, 1);
+        String seen = Whole.of(got);
+        boolean same = seen.equals(wanted);
+        Due.due(last().named() + call + (same ? "" : ", " + seen + " due " + wanted), same ? 1 : 0, 1);
         last().dues++;
     }
 
@@ -59,7 +61,10 @@ final class Edge {
 
     // ---- the document
 
-    /** Each case's words stand in the document, and all words that name a case are some case's. */
+    /**
+     * Each case's words stand in the document, all words that name a case are some case's, and each
+     * promise has one.
+     */
     static void lookUp(Path document) throws IOException {
         Map<Integer, String> sections = sections(Files.readAllLines(document));
         Map<Integer, boolean[]> tested = new HashMap<>();
@@ -75,6 +80,11 @@ final class Edge {
             }
         }
         sections.forEach((promise, text) -> allTested(promise, text, tested.get(promise)));
+        for (int promise : sections.keySet()) {
+            boolean has = promise == 0 || ALL.stream().anyMatch(edge -> edge.promise == promise);
+            Due.due("Promise " + promise + " has a case", has ? 1 : 0, 1);
+        }
+        Due.due("sections of the document", sections.size(), 44);
     }
 
     private static void allTested(int promise, String text, boolean[] tested) {

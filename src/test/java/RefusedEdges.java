@@ -3,7 +3,9 @@
  * counted as such, and nothing else is changed; by the least and the most ones it is not.
  */
 final class RefusedEdges {
-    private static final int VOTERS = 3;
+    /** How many voters there are on a new lake, on one of some, on a full one. */
+    private static final int[] VOTERS = {0, 3, 7};
+    private static final int SOME = 1;
 
     private RefusedEdges() {
     }
@@ -31,19 +33,29 @@ final class RefusedEdges {
         return cells ? 1 : call == Calls.TWO ? 0 : -1;
     }
 
+    private static IceVote lake(int voters) {
+        return voters == 0 ? new IceVote() : voters == VOTERS[SOME] ? Lakes.some() : Lakes.full();
+    }
+
     private static void numbers(Calls call) {
         Edge.of(call.promise(), call == Calls.STATUS ? "-1: another what (counts as BAD)" : "BAD");
         for (int i = 0; i < call.numbers(); i++) {
-            int least = call.least(i);
-            int most = call.most(i, VOTERS);
-            int[] told = {least - 1, most + 1, Integer.MIN_VALUE, Integer.MAX_VALUE, least - 256, least - 65536};
-            for (int number : told) {
-                if (number < least || number > most) {
-                    refused(call, with(call, i, number));
-                }
+            for (int voters : VOTERS) {
+                beyond(call, i, voters);
             }
-            taken(call, with(call, i, least));
-            taken(call, with(call, i, most));
+            taken(call, with(call, i, call.least(i)));
+            taken(call, with(call, i, call.most(i, VOTERS[SOME])));
+        }
+    }
+
+    private static void beyond(Calls call, int i, int voters) {
+        int least = call.least(i);
+        int most = call.most(i, voters);
+        int[] told = {least - 1, most + 1, Integer.MIN_VALUE, Integer.MAX_VALUE, least - 256, least - 65536};
+        for (int number : told) {
+            if (number < least || number > most) {
+                refused(voters, call, with(call, i, number));
+            }
         }
     }
 
@@ -63,21 +75,19 @@ final class RefusedEdges {
     private static void unlike(Calls call, String words) {
         Edge.of(call.promise(), words);
         int first = pair(call);
-        for (int number = call.least(first); number <= call.most(first, VOTERS); number++) {
+        for (int number = call.least(first); number <= call.most(first, VOTERS[SOME]); number++) {
             int[] numbers = with(call, first, number);
             numbers[first + 1] = number;
-            refused(call, numbers);
+            refused(VOTERS[SOME], call, numbers);
         }
     }
 
-    private static void refused(Calls call, int... numbers) {
-        refused(Lakes.some(), Lakes.some(), call, numbers);
-    }
-
-    private static void refused(IceVote x, IceVote twin, Calls call, int... numbers) {
-        String told = call.told(numbers);
+    /** On the lake of so many voters the call is refused as BAD. */
+    private static void refused(int voters, Calls call, int... numbers) {
+        IceVote x = lake(voters);
+        String told = call.told(numbers) + " of " + voters + " voters";
         Edge.due(told, call.on(x, numbers), call.bad());
-        counted(told, x, twin, 0);
+        counted(told, x, lake(voters), 0);
     }
 
     /** One more of this reason is counted, none of the others, and all else is as with the twin. */
@@ -98,29 +108,30 @@ final class RefusedEdges {
 
     private static void noVoters() {
         Edge.of(1, "no VOTERS");
-        refused(new IceVote(), new IceVote(), Calls.ABOUT, 0, 0);
-        refused(new IceVote(), new IceVote(), Calls.VOTED, 0, 0, 0, 0, 0);
-        refused(new IceVote(), new IceVote(), Calls.WHO, 0);
-        refused(new IceVote(), new IceVote(), Calls.TWO, 0, 1);
+        refused(0, Calls.ABOUT, 0, 0);
+        refused(0, Calls.VOTED, 0, 0, 0, 0, 0);
+        refused(0, Calls.WHO, 0);
+        refused(0, Calls.TWO, 0, 1);
         Edge.of(26, "bits; of those there are");
-        refused(new IceVote(), new IceVote(), Calls.SEEN, 1, 0);
-        refused(Lakes.full(), Lakes.full(), Calls.SEEN, 128, 0);
+        refused(0, Calls.SEEN, 1, 0);
+        refused(3, Calls.SEEN, 8, 0);
+        refused(7, Calls.SEEN, 128, 0);
     }
 
     private static void badAheadOfNo() {
         Edge.of(40, "BAD -2 a number is not as told; NO -3 as told");
-        refused(new IceVote(), new IceVote(), Calls.FROM, 2);
-        refused(new IceVote(), new IceVote(), Calls.FROM, -1);
+        refused(0, Calls.FROM, 2);
+        refused(0, Calls.FROM, -1);
     }
 
     private static void badAheadOfFull() {
         Edge.of(6, "Refused, changing nothing but STATUS, the first of: BAD -2 a number is not as told; NO -3 as told; FULL -4");
-        refused(Lakes.full(), Lakes.full(), Calls.VOTER, 6, 1, 0);
-        refused(Lakes.full(), Lakes.full(), Calls.VOTER, 0, 0, 0);
-        refused(Lakes.full(), Lakes.full(), Calls.VOTER, 0, 1, 25);
-        refused(Lakes.full(), Lakes.full(), Calls.TYPE, 128);
-        refused(Lakes.full(), Lakes.full(), Calls.NOTE, 25, 0, 0, 0, 0);
-        refused(Lakes.full(), Lakes.full(), Calls.VOTED, 7, 0, 0, 0, 0);
+        refused(7, Calls.VOTER, 6, 1, 0);
+        refused(7, Calls.VOTER, 0, 0, 0);
+        refused(7, Calls.VOTER, 0, 1, 25);
+        refused(7, Calls.TYPE, 128);
+        refused(7, Calls.NOTE, 25, 0, 0, 0, 0);
+        refused(7, Calls.VOTED, 7, 0, 0, 0, 0);
     }
 
     private static void no(IceVote x, IceVote twin, Calls call, int... numbers) {

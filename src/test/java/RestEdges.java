@@ -225,39 +225,31 @@ final class RestEdges {
         Edge.due("count(1) behind undo()", x.count(1), 3);
     }
 
-    private static long folded(long h, long... values) {
-        long all = h;
-        for (long v : values) {
-            all = 31 * all + v;
-        }
-        return all;
-    }
-
     private static void digestOfNone() {
         Edge.of(43, "h = 1453; then h = 31 h + v for each v");
-        long none = folded(1453, new long[7 + 2 * 25 + 2 * 7 + 4]);
-        Edge.due("digest() of a new one", new IceVote().digest(), folded(none, 0, 1));
+        long none = Due.folded(1453, new long[7 + 2 * 25 + 2 * 7 + 4]);
+        Edge.due("digest() of a new one", new IceVote().digest(), Due.folded(none, 0, 1));
     }
 
     private static void digestOfAll() {
         Edge.of(43, "of NOTES c, i, f, s, j; of VOTED v, yes, b, n, f; THE FRACTION");
         // Stones on 0, 1, 2, 3, a day behind each: of 3 and 1, of 9 and 9, and two of none.
         int[] ices = {12, 0, 11, 11};
-        long h = folded(1453, 7, 4, 21 * 22 + 34, 6, 6, 8, 150);
+        long h = Due.folded(1453, 7, 4, 21 * 22 + 34, 6, 6, 8, 150);
         for (int c = 0; c < 25; c++) {
-            h = folded(h, c == 1 ? 4 : 0, c < 4 ? ices[c] : 22);
+            h = Due.folded(h, c == 1 ? 4 : 0, c < 4 ? ices[c] : 22);
         }
-        h = folded(h, 3, 1, 9, 9, 0, 0, 0, 0, 0, 0, 0, 0, 0, 0);
-        h = folded(h, 96, 97, 98, 99);
+        h = Due.folded(h, 3, 1, 9, 9, 0, 0, 0, 0, 0, 0, 0, 0, 0, 0);
+        h = Due.folded(h, 96, 97, 98, 99);
         for (int v = 0; v < 7; v++) {
-            h = folded(h, v % 6, 40 + v, v);
+            h = Due.folded(h, v % 6, 40 + v, v);
         }
         for (int i = 0; i < 6; i++) {
-            h = folded(h, i, 20, i, 0, 20 + i);
+            h = Due.folded(h, i, 20, i, 0, 20 + i);
         }
         for (int i = 0; i < 6; i++) {
-            h = folded(h, i, i % 2, 40, 40, i);
+            h = Due.folded(h, i, i % 2, 40, 40, i);
         }
-        Edge.due("digest() of a full one", Lakes.full().digest(), folded(h, 7, 10));
+        Edge.due("digest() of a full one", Lakes.full().digest(), Due.folded(h, 7, 10));
     }
 }

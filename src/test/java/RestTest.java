@@ -139,17 +139,9 @@ public final class RestTest {
         Due.due("42: count(-1)", x.count(-1), IceVote.BAD);
     }
 
-    private static long folded(long h, long... values) {
-        long all = h;
-        for (long v : values) {
-            all = 31 * all + v;
-        }
-        return all;
-    }
-
     private static void digestOfNew() {
-        long h = folded(1453, new long[7 + 50 + 14 + 4]);
-        Due.due("43: of a new one", new IceVote().digest(), folded(h, 0, 1));
+        long h = Due.folded(1453, new long[7 + 50 + 14 + 4]);
+        Due.due("43: of a new one", new IceVote().digest(), Due.folded(h, 0, 1));
     }
 
     private static void digestOfAll() {
@@ -165,18 +157,18 @@ public final class RestTest {
         x.day(1);
         x.thaw(0, 48, 1, 6);
         // A day of 5 and 1: 4 more; the mouth's 10 grows by 2 and melts by 2.
-        long h = folded(1453, 2, 1, 23 * 24 + 14 + 10, 2, 2, 3, 57);
+        long h = Due.folded(1453, 2, 1, 23 * 24 + 14 + 10, 2, 2, 3, 57);
         for (int c = 0; c < 23; c++) {
-            h = folded(h, 0, 24);
+            h = Due.folded(h, 0, 24);
         }
-        h = folded(h, 0, 14, 4, 10);
-        h = folded(h, 5, 1, 2, 3, 0, 0, 0, 0, 0, 0, 0, 0, 0, 0);
-        h = folded(h, 0, 0, 77, 7);
-        h = folded(h, 1, 50, 3, 2, 60, 4);
-        h = folded(h, 1, 2, 3, 4, 5, 6, 7, 8, 9, 10);
-        h = folded(h, 1, 1, 11, 12, 9, 0, 0, 13, 14, 8);
-        Due.due("43: of all", x.digest(), folded(h, 0, 1));
+        h = Due.folded(h, 0, 14, 4, 10);
+        h = Due.folded(h, 5, 1, 2, 3, 0, 0, 0, 0, 0, 0, 0, 0, 0, 0);
+        h = Due.folded(h, 0, 0, 77, 7);
+        h = Due.folded(h, 1, 50, 3, 2, 60, 4);
+        h = Due.folded(h, 1, 2, 3, 4, 5, 6, 7, 8, 9, 10);
+        h = Due.folded(h, 1, 1, 11, 12, 9, 0, 0, 13, 14, 8);
+        Due.due("43: of all", x.digest(), Due.folded(h, 0, 1));
         x.thaw(0, 46, 1, 3);
-        Due.due("43: THE FRACTION, 24 + 2 - 3 by frost of 2", x.digest(), folded(h, 7, 10));
+        Due.due("43: THE FRACTION, 24 + 2 - 3 by frost of 2", x.digest(), Due.folded(h, 7, 10));
     }
 }
