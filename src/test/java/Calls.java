@@ -47,6 +47,11 @@ enum Calls {
         return most == LAST_VOTER ? voters - 1 : most == LAST_SET ? (1 << voters) - 1 : most;
     }
 
+    /** Where the first of two numbers that must be unlike stands, the other one behind it; -1: nowhere. */
+    int pair() {
+        return this == CROSS || this == APART || this == STONES ? 1 : this == TWO ? 0 : -1;
+    }
+
     /** What refuses a number that is not as told. */
     int bad() {
         return this == PATH ? -10 : this == STATUS ? -1 : -2;

@@ -36,8 +36,12 @@ final class Due {
 
     static IceVote told(String text) {
         IceVote x = new IceVote();
-        due("read of " + text, read(x, text) > 0 ? 1 : 0, 1);
+        isRead(x, text);
         return x;
+    }
+
+    static void isRead(IceVote x, String text) {
+        due("read of " + text, read(x, text) > 0 ? 1 : 0, 1);
     }
 
     /** As the digest folds what it is of. */

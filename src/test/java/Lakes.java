@@ -20,7 +20,13 @@ final class Lakes {
 
     /** Nothing of it is as at first, and there is room for one more of all. */
     static IceVote some() {
-        IceVote x = Due.told("lake 20;cell 4 1;cell 5 24;week 3 1 9 9;voter 0 40 0;voter 3 50 1;voter 5 30 24;");
+        IceVote x = new IceVote();
+        makeSome(x);
+        return x;
+    }
+
+    static void makeSome(IceVote x) {
+        Due.isRead(x, "lake 20;cell 4 1;cell 5 24;week 3 1 9 9;voter 0 40 0;voter 3 50 1;voter 5 30 24;");
         for (int w = 0; w < 4; w++) {
             x.ward(w, 20 + w);
         }
@@ -32,16 +38,21 @@ final class Lakes {
         x.stone(7);
         x.image(1);
         x.tread(3, 99);
-        return x;
     }
 
     /** All is full: VOTERS, NOTES, VOTED, THE TEXT, what may be undone, IMAGES. */
     static IceVote full() {
+        IceVote x = new IceVote();
+        makeFull(x);
+        return x;
+    }
+
+    static void makeFull(IceVote x) {
         StringBuilder text = new StringBuilder("lake 20;cell 4 1;week 3 1 9 9;");
         for (int v = 0; v < 7; v++) {
             text.append("voter ").append(v % 6).append(" 4").append(v).append(' ').append(v).append(';');
         }
-        IceVote x = Due.told(padded(text.toString(), 150));
+        Due.isRead(x, padded(text.toString(), 150));
         for (int w = 0; w < 4; w++) {
             x.ward(w, 96 + w);
         }
@@ -56,7 +67,6 @@ final class Lakes {
             x.day(1);
         }
         x.image(1);
-        return x;
     }
 
     /** Of this ICE, without WEATHER, on a DAY; what has gone by may be undone. */

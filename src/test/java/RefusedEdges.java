@@ -27,12 +27,6 @@ final class RefusedEdges {
         full();
     }
 
-    /** Where the first of two numbers that must be unlike stands, the other one behind it; -1: nowhere. */
-    private static int pair(Calls call) {
-        boolean cells = call == Calls.CROSS || call == Calls.APART || call == Calls.STONES;
-        return cells ? 1 : call == Calls.TWO ? 0 : -1;
-    }
-
     private static IceVote lake(int voters) {
         return voters == 0 ? new IceVote() : voters == VOTERS[SOME] ? Lakes.some() : Lakes.full();
     }
@@ -65,7 +59,7 @@ final class RefusedEdges {
         for (int j = 0; j < numbers.length; j++) {
             numbers[j] = j == i ? number : call.least(j);
         }
-        int pair = pair(call);
+        int pair = call.pair();
         if (pair >= 0 && numbers[pair] == numbers[pair + 1]) {
             numbers[i == pair ? pair + 1 : pair]++;
         }
@@ -74,7 +68,7 @@ final class RefusedEdges {
 
     private static void unlike(Calls call, String words) {
         Edge.of(call.promise(), words);
-        int first = pair(call);
+        int first = call.pair();
         for (int number = call.least(first); number <= call.most(first, VOTERS[SOME]); number++) {
             int[] numbers = with(call, first, number);
             numbers[first + 1] = number;
