@@ -86,7 +86,6 @@ public final class LanguageTest {
     private static void notOfTheFace(Method method) {
         boolean named = Arrays.stream(Calls.values()).anyMatch(call -> call.call.equals(method.getName()));
         Due.due(method + " bears a name of the face", named ? 1 : 0, 0);
-        Due.due(method + " takes seven at most", method.getParameterCount() <= 7 ? 1 : 0, 1);
     }
 
     private static void source(String all) {
@@ -101,20 +100,5 @@ public final class LanguageTest {
             Due.due("import " + imported.group(1), imported.group(1).equals("java.util.Arrays") ? 1 : 0, 1);
         }
         Due.due("signs of the source beyond 127", all.chars().filter(c -> c > 127).count(), 0);
-        shortMethods(all);
-    }
-
-    private static void shortMethods(String all) {
-        int start = 0;
-        String[] lines = all.split("\n");
-        for (int i = 0; i < lines.length; i++) {
-            if (lines[i].matches(" {4,8}[a-z].*\\) \\{")) {
-                start = i;
-            }
-            if (lines[i].matches(" {4,8}\\}")) {
-                Due.due("a method up to line " + (i + 1) + " is of some sixty lines", i - start <= 60 || start == 0 ? 1 : 0, 1);
-                start = i;
-            }
-        }
     }
 }
